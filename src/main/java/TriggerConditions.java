@@ -315,6 +315,7 @@ public final class TriggerConditions {
         private int parts = 1;
         private int approved = 0;
         private int applied = 0;
+        /** Of no meaning while nothing is applied for. */
         private int appliedDays = 0;
         /** Of the kind KEPT: for how many days it was kept. */
         private int clock = 0;
@@ -322,6 +323,7 @@ public final class TriggerConditions {
         private boolean immune = false;
         private int age = 0;
         private boolean noticed = false;
+        /** Of no meaning while there is no notice. */
         private int noticeDays = 0;
         private int overdue = 0;
 
@@ -332,7 +334,6 @@ public final class TriggerConditions {
             parts = newParts;
             approved = 0;
             applied = 0;
-            appliedDays = 0;
             clock = 0;
             immune = false;
             overdue = 0;
@@ -371,7 +372,6 @@ public final class TriggerConditions {
         private void approve(int set) {
             approved = approved | set;
             applied = 0;
-            appliedDays = 0;
             if (inBreach && isMet()) {
                 endBreach();
             }
@@ -381,7 +381,6 @@ public final class TriggerConditions {
             inBreach = false;
             age = 0;
             noticed = false;
-            noticeDays = 0;
         }
 
         private void ageBreach(int immunityAge) {

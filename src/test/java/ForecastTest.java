@@ -127,6 +127,9 @@ public final class ForecastTest {
         Check.due("asking changes nothing", Check.look(x), ahead);
         x.begin(1);
         Check.due("without conditions", x.lawful(2), 0);
+        x.begin(2);
+        x.begin(3);
+        Check.due("the last", x.lawful(4), 0);
         TriggerConditions y = new TriggerConditions();
         y.condition(0, 0, 0, 1);
         for (int i = 0; i < 24; i++) {
@@ -173,6 +176,7 @@ public final class ForecastTest {
         Check.due("not overdue yet", x.fine(0, 5), 0);
         x.pass(3);
         Check.due("three days", x.fine(0, 5), 45);
+        Check.due("least", x.fine(0, 1), 9);
         Check.due("most", x.fine(0, MOST), 9 * MOST);
         Check.due("above an int", x.fine(0, 1000000007L), 9000000063L);
         x.apply(0, 1);

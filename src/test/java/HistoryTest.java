@@ -7,6 +7,7 @@ public final class HistoryTest {
         everyChangeIsUndone();
         errorsAreNoChanges();
         textIsNotUndone();
+        conditionsAddedAgain();
         Check.end();
     }
 
@@ -170,5 +171,77 @@ public final class HistoryTest {
         Check.due("clearing is no change", x.count(6), 1);
         x.undo();
         Check.due("no text", x.count(7), 0);
+    }
+
+    /** What a condition that was undone had must not come back in the one that gets its number. */
+    private static void conditionsAddedAgain() {
+        Check.part("promise 21: nothing is left of a condition that is undone");
+        String[] lives = {"a1,1;p5;", "a1,3;p57;", "a1,3;d1,1;", "a1,3;d1,3;", "b0;p1;p3;", "b0;p200;", "a1,2;b0;p7;d1,0;",
+            "b0;f0;p4;", "b0;f0;p99;"};
+        for (int kind = 0; kind <= 2; kind++) {
+            for (String life : lives) {
+                // nothing can be applied for with the kind 2
+                if (kind < 2 || life.charAt(0) != 'a') {
+                    addedByTheCall(kind, life);
+                    addedByTheText(kind, life);
+                }
+            }
+        }
+        addedBehindANotice();
+    }
+
+    private static TriggerConditions lived(int kind, String life) {
+        TriggerConditions x = new TriggerConditions();
+        x.condition(0, 4, 0, 1);
+        Check.write(x, "c" + kind + ",0,5,2;" + life);
+        Check.due("play", x.play() > 0 ? 1 : 0, 1);
+        Check.due("undo", x.undo(), 1);
+        Check.due("none is left of " + kind + life, x.count(0), 1);
+        Check.due("parts", x.count(2), 1);
+        Check.due("approved", x.count(3), 0);
+        Check.due("none is left", x.stageOf(0, 3) + x.which(0) + x.which(2) + x.which(3) + x.which(4), 0);
+        Check.due("no breach", x.begin(0), 0);
+        x.undo();
+        return x;
+    }
+
+    private static void sameAsFresh(TriggerConditions x) {
+        TriggerConditions fresh = new TriggerConditions();
+        fresh.condition(0, 4, 0, 1);
+        fresh.condition(0, 0, 0, 1);
+        Check.due("added again", Check.look(x), Check.look(fresh));
+        Check.due("begun", x.begin(0), fresh.begin(0));
+        Check.due("begun", Check.look(x), Check.look(fresh));
+    }
+
+    private static void addedByTheCall(int kind, String life) {
+        TriggerConditions x = lived(kind, life);
+        Check.due("the number", x.condition(0, 0, 0, 1), 1);
+        sameAsFresh(x);
+    }
+
+    private static void addedByTheText(int kind, String life) {
+        TriggerConditions x = lived(kind, life);
+        Check.write(x, "c0,0,0,1;");
+        Check.due("play", x.play(), 1);
+        sameAsFresh(x);
+    }
+
+    private static void addedBehindANotice() {
+        TriggerConditions x = new TriggerConditions();
+        x.condition(0, 4, 0, 1);
+        Check.write(x, "c0,0,0,2;b0;");
+        x.play();
+        x.serve(1, 1);
+        x.pass(3);
+        // forecasts and faults must not keep anything of it either
+        Check.due("when", x.when(1, 4), Check.MISSING);
+        Check.due("fault", x.fault(1), 2);
+        for (int i = 0; i < 3; i++) {
+            x.undo();
+        }
+        Check.write(x, "c0,0,0,1;");
+        Check.due("play", x.play(), 1);
+        sameAsFresh(x);
     }
 }
