@@ -1,27 +1,58 @@
-/** Counts checks, tells every answer that is not the one that is due, and ends the test with exit code 1 if there was one. */
+import java.util.function.Supplier;
+import java.util.function.ToLongFunction;
+
+/**
+ * Counts tests and their checks, tells every answer that is not the one that is due, and ends the program with exit
+ * code 1 if a test failed. A test goes from its part(..) or sentence(..) to the next one.
+ */
 final class Check {
     static final int INVALID = -1000001;
     static final int IMPOSSIBLE = -1000002;
     static final int LIMIT = -1000003;
     static final int MISSING = -1000004;
 
+    private static int tests = 0;
+    private static int failed = 0;
+    private static String name = "";
     private static int checks = 0;
     private static int wrong = 0;
-    private static String where = "";
 
     private Check() {
     }
 
-    static void part(String name) {
-        where = name;
-        System.out.println("   " + name);
+    /** Begins a test. */
+    static void part(String newName) {
+        close();
+        name = newName;
+    }
+
+    /** Begins the test of a sentence of the document, which is looked up under the head. */
+    static void sentence(String head, String words) {
+        part(head + ", \"" + words + "\"");
+        if (!Document.mark(head, words)) {
+            wrong++;
+            System.out.println("   the document has no such words there: " + name);
+        }
+    }
+
+    private static void close() {
+        if (name.isEmpty()) {
+            return;
+        }
+        boolean bad = wrong != 0 || checks == 0;
+        tests++;
+        failed += bad ? 1 : 0;
+        System.out.println("   " + (bad ? "FAILED " : "passed ") + name);
+        name = "";
+        checks = 0;
+        wrong = 0;
     }
 
     static void due(String call, long got, long want) {
         checks++;
         if (got != want) {
             wrong++;
-            System.out.println("   " + where + ": " + call + " answered " + got + ", due is " + want);
+            System.out.println("   " + name + ": " + call + " answered " + got + ", due is " + want);
         }
     }
 
@@ -29,13 +60,15 @@ final class Check {
         checks++;
         if (!got.equals(want)) {
             wrong++;
-            System.out.println("   " + where + ": " + call + " answered " + got + ", due is " + want);
+            System.out.println("   " + name + ": " + call + " answered " + got + ", due is " + want);
         }
     }
 
+    /** .ci/run reads the numbers of this line. */
     static void end() {
-        System.out.println("   " + checks + " checks, " + wrong + " wrong");
-        if (wrong != 0 || checks == 0) {
+        close();
+        System.out.println("   " + tests + " tests: " + (tests - failed) + " passed, " + failed + " failed");
+        if (failed != 0 || tests == 0) {
             System.exit(1);
         }
     }
@@ -66,5 +99,25 @@ final class Check {
             }
         }
         return seen.toString();
+    }
+
+    /** What look(..) does not see: the text, the length of the history, and the latest state of it (which is undone). */
+    private static String lookBehind(TriggerConditions x) {
+        StringBuilder seen = new StringBuilder();
+        seen.append(x.count(6)).append(' ').append(x.count(7)).append(' ');
+        for (int what = 0; what < 3; what++) {
+            seen.append(x.fault(what)).append(' ');
+        }
+        seen.append(x.undo()).append(' ');
+        return seen.append(look(x)).toString();
+    }
+
+    /** A call that answers a number and leaves everything, the text and the history too, as it is. */
+    static void still(String call, Supplier<TriggerConditions> made, ToLongFunction<TriggerConditions> asked, long answer) {
+        TriggerConditions x = made.get();
+        TriggerConditions untouched = made.get();
+        due(call, asked.applyAsLong(x), answer);
+        due("all behind " + call, look(x), look(untouched));
+        due("text and history behind " + call, lookBehind(x), lookBehind(untouched));
     }
 }
