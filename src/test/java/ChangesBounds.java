@@ -2,6 +2,7 @@ import java.io.IOException;
 import java.nio.charset.StandardCharsets;
 import java.nio.file.Files;
 import java.nio.file.Path;
+import java.util.List;
 import java.util.function.Supplier;
 import java.util.function.ToLongFunction;
 
@@ -28,8 +29,10 @@ final class ChangesBounds {
             long answer) {
         for (int more = 0; more <= 4; more += 4) {
             TriggerConditions x = made.get();
+            int setting = x.count(20);
             for (int i = 0; i < more; i++) {
-                x.set(0, x.count(20));
+                // states that differ, and back to the setting that was
+                x.set(0, i < more - 1 ? i : setting);
             }
             String ahead = Check.look(x);
             int states = x.count(6);
@@ -69,6 +72,12 @@ final class ChangesBounds {
         change("pass", begun, x -> x.pass(1), 1);
         change("set 0", Make::fresh, x -> x.set(0, 0), 56);
         change("set 1", Make::fresh, x -> x.set(1, 1), 100);
+        change("set of one that was set", () -> {
+            TriggerConditions x = new TriggerConditions();
+            x.set(0, 5);
+            x.set(1, 6);
+            return x;
+        }, x -> x.set(0, 7), 5);
         change("set to what it is", Make::fresh, x -> x.set(0, 56), 56);
         change("play without orders", Make::fresh, TriggerConditions::play, 0);
         change("play", () -> {
@@ -125,22 +134,32 @@ final class ChangesBounds {
         Check.due("no fifth one", x.undo(), Check.IMPOSSIBLE);
     }
 
-    private static void everythingButTheText() {
-        Check.sentence("Changes and errors", "each change records everything before it but the text,");
+    /** A permission with something of everything that a condition, a stage and a permission can have. */
+    private static TriggerConditions full() {
         TriggerConditions x = new TriggerConditions();
         x.condition(0, 0, 9, 3);
         x.condition(1, 0, 0, 2);
         x.condition(2, 0, 9, 1);
+        x.condition(0, 0, 0, 1);
+        x.condition(1, 1, 30, 4);
         x.apply(0, 1);
+        x.apply(4, 2);
         x.begin(0);
         x.finish(0);
         x.pass(2);
         x.serve(0, 1);
+        x.serve(1, 40);
         x.lapse(2);
         x.set(0, 9);
-        x.set(1, 200);
+        x.set(1, 7);
         x.pass(3);
-        String ahead = Check.look(x);
+        return x;
+    }
+
+    private static void everythingButTheText() {
+        Check.sentence("Changes and errors", "each change records everything before it but the text,");
+        TriggerConditions x = full();
+        String first = Check.look(x);
         Check.write(x, "c1,1,5,6;d0,1;b1;f1;p365;");
         Check.due("play", x.play(), 5);
         x.set(0, 3);
@@ -150,9 +169,20 @@ final class ChangesBounds {
         for (int i = 3; i >= 0; i--) {
             Check.due("undo", x.undo(), i);
         }
-        Check.due("everything before it", Check.look(x), ahead);
+        Check.due("everything before it", Check.look(x), first);
         Check.due("but the text", x.count(7), 2);
         Check.due("but the text", x.fault(2), 2);
+        TriggerConditions y = full();
+        String[] ahead = new String[2];
+        int[] days = {1, 100};
+        for (int i = 0; i < 2; i++) {
+            ahead[i] = Check.look(y);
+            y.pass(days[i]);
+        }
+        for (int i = 1; i >= 0; i--) {
+            y.undo();
+            Check.due("everything before the pass " + i, Check.look(y), ahead[i]);
+        }
     }
 
     private static void oldestOneIsDropped() {
@@ -242,6 +272,7 @@ final class ChangesBounds {
         Check.still("fault", made, x -> x.fault(3), Check.INVALID);
         // two of its three orders are possible
         Check.still("play", made, TriggerConditions::play, Check.IMPOSSIBLE);
+        fullHistoryStays();
         Check.still("type at the end", () -> {
             TriggerConditions x = new TriggerConditions();
             for (int i = 0; i < 16; i++) {
@@ -249,6 +280,25 @@ final class ChangesBounds {
             }
             return x;
         }, x -> x.type('p'), Check.LIMIT);
+    }
+
+    private static void fullHistoryStays() {
+        List<ToLongFunction<TriggerConditions>> refused = List.of(x -> x.condition(0, 5, 0, 1), x -> x.begin(1),
+            x -> x.finish(0), x -> x.apply(0, 1), x -> x.decide(0, 0), x -> x.lapse(0), x -> x.cure(0), x -> x.serve(0, 1),
+            x -> x.vary(0, 1, 1), x -> x.pass(0), x -> x.set(2, 0), TriggerConditions::play);
+        for (int call = 0; call < refused.size(); call++) {
+            TriggerConditions x = Make.one(2, 0, 9, 1);
+            for (int day = 1; day <= 7; day++) {
+                x.pass(day);
+            }
+            Check.write(x, "p1;p0;");
+            Check.due("call " + call + " returns an error", refused.get(call).applyAsLong(x) < 0 ? 1 : 0, 1);
+            int[] days = {6, 10, 15, 21};
+            for (int i = 3; i >= 0; i--) {
+                Check.due("undo", x.undo(), i);
+                Check.due("the day ahead of a pass, behind call " + call, x.count(1), days[i]);
+            }
+        }
     }
 
     private static void noSuchNumber() {

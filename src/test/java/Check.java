@@ -101,15 +101,18 @@ final class Check {
         return seen.toString();
     }
 
-    /** What look(..) does not see: the text, the length of the history, and the latest state of it (which is undone). */
+    /** What look(..) does not see: the text, and the states of the history, which are undone; the latest one whole. */
     private static String lookBehind(TriggerConditions x) {
         StringBuilder seen = new StringBuilder();
         seen.append(x.count(6)).append(' ').append(x.count(7)).append(' ');
         for (int what = 0; what < 3; what++) {
             seen.append(x.fault(what)).append(' ');
         }
-        seen.append(x.undo()).append(' ');
-        return seen.append(look(x)).toString();
+        seen.append(x.undo()).append(' ').append(look(x));
+        for (int i = 0; i < 3; i++) {
+            seen.append(x.undo()).append(' ').append(x.count(0)).append(' ').append(x.count(1)).append(' ').append(x.which(3));
+        }
+        return seen.toString();
     }
 
     /** A call that answers a number and leaves everything, the text and the history too, as it is. */

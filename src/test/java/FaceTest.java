@@ -80,6 +80,13 @@ public final class FaceTest {
         for (Class<?> each : inside) {
             Check.due("static " + each, Modifier.isStatic(each.getModifiers()) ? 1 : 0, 1);
             Check.due("private " + each, Modifier.isPrivate(each.getModifiers()) ? 1 : 0, 1);
+            for (Method method : each.getDeclaredMethods()) {
+                boolean likePublic = false;
+                for (String face : METHODS) {
+                    likePublic |= face.contains(" " + method.getName() + "(");
+                }
+                Check.due("private " + method.getName() + ", a name of the face", likePublic ? 1 : 0, 0);
+            }
         }
     }
 

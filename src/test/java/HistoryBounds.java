@@ -176,6 +176,36 @@ final class HistoryBounds {
         TriggerConditions z = Make.one(1, 4, 0, 1);
         z.undo();
         Check.due("the state of a new object", Check.look(z), Check.look(new TriggerConditions()));
+        for (String life : new String[] {"c1,0,2,1;b0;p9;", "c1,0,2,1;b0;p200;", "c2,0,9,2;b0;f0;p4;", "c0,0,0,3;a0,3;d0,3;"}) {
+            TriggerConditions u = new TriggerConditions();
+            Check.write(u, life);
+            u.play();
+            u.undo();
+            u.condition(0, 1, 0, 1);
+            Check.due("nothing is left of " + life, Check.look(u), Check.look(Make.one(0, 1, 0, 1)));
+        }
+        TriggerConditions late = new TriggerConditions();
+        Check.write(late, "c0,0,0,1;b0;");
+        late.play();
+        late.serve(0, 1);
+        late.pass(3);
+        Check.due("asking must not keep anything of it either", late.fault(1), 2);
+        for (int i = 0; i < 3; i++) {
+            late.undo();
+        }
+        Check.write(late, "c0,1,0,1;");
+        late.play();
+        Check.due("nothing is left of a notice", Check.look(late), Check.look(Make.one(0, 1, 0, 1)));
+        TriggerConditions v = Make.one(2, 0, 9, 1);
+        v.begin(0);
+        v.finish(0);
+        v.lapse(0);
+        Check.write(v, "c0,1,0,1;b1;p1;");
+        v.play();
+        for (int i = 0; i < 4; i++) {
+            v.undo();
+        }
+        Check.due("back to the first condition", Check.look(v), Check.look(Make.one(2, 0, 9, 1)));
     }
 
     private static void undoRemoves() {

@@ -176,6 +176,10 @@ final class TermsBounds {
             Check.due("no more parts", x.apply(0, 1 << parts), Check.INVALID);
             Check.due("met", x.conditionOf(0, 4), 2);
         }
+        Check.due("days below", new TriggerConditions().condition(0, 0, -1, 1), Check.INVALID);
+        Check.due("days above", new TriggerConditions().condition(0, 0, 366, 1), Check.INVALID);
+        Check.due("parts below", new TriggerConditions().condition(0, 0, 0, 0), Check.INVALID);
+        Check.due("parts above", new TriggerConditions().condition(0, 0, 0, 7), Check.INVALID);
     }
 
     private static void kindAhead() {

@@ -438,6 +438,23 @@ final class TextBounds {
         y.finish(0);
         Check.due("as the calls do", Check.look(x), Check.look(y));
         Check.due("the text stays", x.count(7), 40);
+        TriggerConditions late = Make.overdue(3);
+        TriggerConditions same = Make.overdue(3);
+        for (TriggerConditions each : new TriggerConditions[] {late, same}) {
+            each.condition(2, 1, 99, 1);
+            each.begin(1);
+            each.finish(1);
+            each.lapse(1);
+            each.serve(1, 50);
+        }
+        Check.write(late, "p2;a0,2;p3;");
+        late.play();
+        same.pass(2);
+        same.apply(0, 2);
+        same.pass(3);
+        Check.due("with notices, as the calls do", Check.look(late), Check.look(same));
+        Check.due("overdue", late.conditionOf(0, 11), 8);
+        Check.due("days left", late.conditionOf(1, 10), 45);
         TriggerConditions z = typed("p5;");
         z.play();
         z.play();
