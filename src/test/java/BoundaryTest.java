@@ -57,7 +57,9 @@ public final class BoundaryTest {
         ForecastBounds.all();
         HistoryBounds.all();
         TextBounds.all();
-        noSentenceIsLeftOut();
+        if (Document.isHere()) {
+            noSentenceIsLeftOut();
+        }
         Check.end();
     }
 
