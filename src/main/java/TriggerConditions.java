@@ -441,11 +441,11 @@ public final class TriggerConditions {
         }
 
         private boolean isBegun(int stage) {
-            return begunOn[stage] != NO_DAY;
+            return isWithin(stage, 0, STAGES - 1) && begunOn[stage] != NO_DAY;
         }
 
         private boolean isFinished(int stage) {
-            return finishedOn[stage] != NO_DAY;
+            return isWithin(stage, 0, STAGES - 1) && finishedOn[stage] != NO_DAY;
         }
 
         private boolean canBegin(int stage) {

@@ -22,6 +22,10 @@ public final class FaceTest {
         constants();
         methods();
         classesInside();
+        sizes(TriggerConditions.class);
+        for (Class<?> inside : TriggerConditions.class.getDeclaredClasses()) {
+            sizes(inside);
+        }
         source();
         Check.end();
     }
@@ -87,6 +91,21 @@ public final class FaceTest {
                 }
                 Check.due("private " + method.getName() + ", a name of the face", likePublic ? 1 : 0, 0);
             }
+        }
+    }
+
+    private static void sizes(Class<?> of) {
+        Check.part("fields and parameters of " + of.getSimpleName());
+        int fields = 0;
+        for (Field field : of.getDeclaredFields()) {
+            boolean isStatic = Modifier.isStatic(field.getModifiers());
+            boolean isFinal = Modifier.isFinal(field.getModifiers());
+            Check.due(field.getName() + " is static, but may change", isStatic && !isFinal ? 1 : 0, 0);
+            fields += isStatic ? 0 : 1;
+        }
+        Check.due("at most twenty fields, there are " + fields, fields <= 20 ? 1 : 0, 1);
+        for (Method method : of.getDeclaredMethods()) {
+            Check.due("at most seven parameters of " + method.getName(), method.getParameterCount() <= 7 ? 1 : 0, 1);
         }
     }
 
